@@ -843,7 +843,6 @@ public final class IceTongue {
             for (int i = bandCount - 1; i >= 0; i--) {
                 Band giver = bands[i];
                 giver.gave = giver.iceToGive();
-                giver.got = 0;
                 if (i + 1 < bandCount) {
                     giver.layers.giveFromOldest(giver.gave, bands[i + 1].layers);
                     bands[i + 1].got = giver.gave;

@@ -18,6 +18,7 @@ public final class BandsTest {
         promise5Settings();
         promise5YearOfFlatSettings();
         promise5BandAddedLater();
+        promise5BandAddedWhereAnotherWas();
         promise5Errors();
         promise6Layer();
         promise6MeltAndCreepOfLayers();
@@ -272,6 +273,38 @@ public final class BandsTest {
         // What the one above gave before the last one came has gone to the front.
         due("5: gave", x.bandInfo(1, 10), 14);
         due("5: front(0)", x.front(0), 14);
+    }
+
+    private static void promise5BandAddedWhereAnotherWas() {
+        IceTongue x = flat(100, 30);
+        x.band(3000, 1000, 100, 1000);
+        x.band(2000, 500, 200, 500);
+        x.years(2);
+        x.undo();
+        x.undo();
+        // Whatever holds the states was filled with two bands of some years by now.
+        for (int i = 0; i < 6; i++) {
+            x.set(6, i);
+            x.set(6, i);
+            x.undo();
+            due("5: band(1000, 100, 0, 0)", x.band(1000, 100, 0, 0), 1);
+            int[] want = {1000, 100, 0, 0, 0, NOT_FOUND, NOT_FOUND, 100, 30, 0, 0, 0};
+            for (int what = 0; what < want.length; what++) {
+                due("5: of a new band, " + what, x.bandInfo(1, what), want[what]);
+            }
+            due("5: stake(1, 0, 5)", x.stake(1, 0, 5), 0);
+            x.years(1);
+            due("5: bandInfo(1, 5)", x.bandInfo(1, 5), 0);
+            due("5: bandInfo(1, 6)", x.bandInfo(1, 6), 1);
+            due("5: bandInfo(1, 3)", x.bandInfo(1, 3), 70 + 107);
+            due("5: stakeInfo(0, 3)", x.stakeInfo(0, 3), 70);
+            due("5: stakeInfo(0, 5)", x.stakeInfo(0, 5), 1);
+            x.undo();
+            due("5: stakeInfo(0, 5) undone", x.stakeInfo(0, 5), 0);
+            x.undo();
+            x.undo();
+            due("5: bands", x.count(0), 1);
+        }
     }
 
     private static void promise5Errors() {

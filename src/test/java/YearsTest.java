@@ -19,6 +19,7 @@ public final class YearsTest {
         promise18NoIce();
         promise18NoStake();
         promise18BeyondTheLastYear();
+        promise18TheLastSnowThatIsLookedAt();
         promise18Errors();
         promise19SteadyMelt();
         promise19WhereNothingIsLess();
@@ -264,6 +265,21 @@ public final class YearsTest {
         due("18: year 795", x.yearsTo(1), 295);
         x.set(2, 10);
         due("18: 10 of 5000 a year", x.yearsTo(1), NOT_FOUND);
+    }
+
+    private static void promise18TheLastSnowThatIsLookedAt() {
+        IceTongue x = flat(5, 15);
+        x.band(3000, 1000, 0, 0);
+        for (int i = 0; i < 5; i++) {
+            x.years(100);
+        }
+        x.set(0, 5);
+        x.band(2000, 1000, 0, 3000);
+        due("18: no ice in year 800", x.yearsTo(1), 300);
+        x.undo();
+        // 3001 + 300 * (5 - 15) is 1; without the snow of the year 800 there would be none.
+        x.band(2000, 1000, 0, 3001);
+        due("18: ice in year 800", x.yearsTo(1), NOT_FOUND);
     }
 
     private static void promise18Errors() {
