@@ -28,6 +28,7 @@ public final class LanguageTest {
         String code = withoutCommentsAndTexts(Files.readString(Path.of(SOURCE)));
         rule4And6Words(code);
         rule11Methods(code);
+        rule7NoCallThrows();
         rule12WhatCallsMake();
         answers.end();
     }
@@ -147,6 +148,29 @@ public final class LanguageTest {
                     lines <= MOST_LINES);
         }
         answers.holds("methods were found: " + methods, methods > 60);
+    }
+
+    /** Whatever the arguments are, and far behind the 512th call too. */
+    private static void rule7NoCallThrows() {
+        int[] drawn = {Integer.MIN_VALUE, -1, 0, 0, 1, 1, 2, 3, 4, 5, 6, 9, 10, 44, 48, 49, 57, 59, 99, 100, 101, 300,
+            499, 500, 501, 3000, 4999, 5000, 9000, 1000000, Integer.MAX_VALUE - 1, Integer.MAX_VALUE};
+        long seed = 42;
+        for (int object = 0; object < 40; object++) {
+            IceTongue x = new IceTongue();
+            int[] a = new int[5];
+            for (int i = 0; i < 4000; i++) {
+                for (int k = 0; k < a.length; k++) {
+                    seed = seed * 6364136223846793005L + 1442695040888963407L;
+                    a[k] = k == 4 ? (int) Math.floorMod(seed >> 33, 23L) : drawn[(int) Math.floorMod(seed >> 33, 32L)];
+                }
+                // Heights that come down leave room for many bands.
+                a[0] = a[4] == 1 && i % 2 == 0 ? 5000 - i : a[0];
+                ModelTest.call(x, a[4], a);
+            }
+            long ice = x.account(0) + x.account(1) - x.account(2) - x.account(3);
+            answers.due("the accounts of object " + object, x.account(4), ice);
+            answers.due("the second way of object " + object, x.account(5), ice);
+        }
     }
 
     /** No call makes anything: what a run holds is what the constructor has made. */

@@ -224,7 +224,8 @@ public final class ModelTest {
         }
     }
 
-    private static long call(IceTongue x, int method, int[] a) {
+    /** The call of a number from 0 to 22, in the order of the face. */
+    static long call(IceTongue x, int method, int[] a) {
         switch (method) {
             case 0: return x.set(a[0], a[1]);
             case 1: return x.band(a[0], a[1], a[2], a[3]);
