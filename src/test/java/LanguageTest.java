@@ -165,7 +165,7 @@ public final class LanguageTest {
                 }
                 // Heights that come down leave room for many bands.
                 a[0] = a[4] == 1 && i % 2 == 0 ? 5000 - i : a[0];
-                ModelTest.call(x, a[4], a);
+                Calls.ask(x, a[4], a);
             }
             long ice = x.account(0) + x.account(1) - x.account(2) - x.account(3);
             answers.due("the accounts of object " + object, x.account(4), ice);

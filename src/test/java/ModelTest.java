@@ -6,11 +6,6 @@ public final class ModelTest {
     private static final int RUNS = 2500;
     private static final int CALLS = 512;
     private static final int METHODS = 23;
-    private static final String[] NAMES = {
-        "set", "band", "creep", "bandInfo", "layer", "ofYear", "line", "front", "account", "count", "stake", "pull",
-        "stakeInfo", "stakesIn", "years", "ifYears", "yearsTo", "steadyMelt", "undo", "type", "clearText", "fault",
-        "live",
-    };
     // How often a method is called; looks ahead are dear in the model.
     private static final int[] WEIGHTS = {
         30, 22, 12, 60, 40, 20, 12, 25, 25, 35, 25, 6, 50, 15, 26, 12, 3, 6, 16, 50, 2, 14, 12,
@@ -30,11 +25,11 @@ public final class ModelTest {
         }
         // The runs are worth something only if each method was called, with and without errors.
         for (int method = 0; method < METHODS; method++) {
-            answers.holds(NAMES[method] + " was called often", seen[method] > RUNS);
+            answers.holds(Calls.NAMES[method] + " was called often", seen[method] > RUNS);
             if (method != 20) {
-                answers.holds(NAMES[method] + " returned errors", errors[method] > RUNS / 20);
+                answers.holds(Calls.NAMES[method] + " returned errors", errors[method] > RUNS / 20);
             }
-            answers.holds(NAMES[method] + " returned no errors", seen[method] - errors[method] > RUNS / 20);
+            answers.holds(Calls.NAMES[method] + " returned no errors", seen[method] - errors[method] > RUNS / 20);
         }
         answers.end();
     }
@@ -87,9 +82,9 @@ public final class ModelTest {
                 arguments(method, a, style, lastHeight);
             }
             long want = model.call(method, a[0], a[1], a[2], a[3]);
-            long got = call(x, method, a);
+            long got = Calls.ask(x, method, a);
             seen[method]++;
-            errors[method] += want <= Model.INVALID && want >= Model.NOT_FOUND ? 1 : 0;
+            errors[method] += Calls.isError(want) ? 1 : 0;
             if (method == 1 && want >= 0) {
                 bands++;
                 lastHeight = a[0];
@@ -98,7 +93,7 @@ public final class ModelTest {
                 bands = (int) model.call(9, 0, 0, 0, 0);
                 lastHeight = bands == 0 ? 5000 : (int) model.call(3, bands - 1, 0, 0, 0);
             }
-            String told = NAMES[method] + "(" + a[0] + ", " + a[1] + ", " + a[2] + ", " + a[3] + ")";
+            String told = Calls.NAMES[method] + "(" + a[0] + ", " + a[1] + ", " + a[2] + ", " + a[3] + ")";
             calls.add(told + " " + want);
             answers.due("run " + run + ", call " + i + ", " + told, got, want);
             if (!answers.allRight()) {
@@ -221,35 +216,6 @@ public final class ModelTest {
             a[1] = near(0, 300);
         } else if ((what == 1 || what == 3) && below(2) == 0) {
             a[1] = near(0, style == 1 ? 10 : 60);
-        }
-    }
-
-    /** The call of a number from 0 to 22, in the order of the face. */
-    static long call(IceTongue x, int method, int[] a) {
-        switch (method) {
-            case 0: return x.set(a[0], a[1]);
-            case 1: return x.band(a[0], a[1], a[2], a[3]);
-            case 2: return x.creep(a[0], a[1]);
-            case 3: return x.bandInfo(a[0], a[1]);
-            case 4: return x.layer(a[0], a[1], a[2]);
-            case 5: return x.ofYear(a[0]);
-            case 6: return x.line();
-            case 7: return x.front(a[0]);
-            case 8: return x.account(a[0]);
-            case 9: return x.count(a[0]);
-            case 10: return x.stake(a[0], a[1], a[2]);
-            case 11: return x.pull(a[0]);
-            case 12: return x.stakeInfo(a[0], a[1]);
-            case 13: return x.stakesIn(a[0]);
-            case 14: return x.years(a[0]);
-            case 15: return x.ifYears(a[0], a[1]);
-            case 16: return x.yearsTo(a[0]);
-            case 17: return x.steadyMelt();
-            case 18: return x.undo();
-            case 19: return x.type(a[0]);
-            case 20: return x.clearText();
-            case 21: return x.fault(a[0]);
-            default: return x.live();
         }
     }
 }
