@@ -33,6 +33,7 @@ public final class ChangesEdgesTest {
         allButTheText();
         undoBehindFullHistory();
         newWhereAnotherWasUndone();
+        layersWhereOthersWereUndone();
         answers.end();
     }
 
@@ -305,6 +306,24 @@ public final class ChangesEdgesTest {
             run.dues("bandInfo 2", 1000, 200, 7, 0, 0, NOT_FOUND, NOT_FOUND, 9, 5, 0, 0, 0);
             run.dues("stakeInfo 1", 2, 9, 8, 0, 0, 0).due("ofYear 0", 800).due("ofYear 1", 0);
             run.play("undo", "undo", "undo", "undo").due("count 0", 2).due("count 2", 2).due("count 13", 0);
+        }
+    }
+
+    /** Layers of a band that was undone are not in the one that comes in its place. */
+    private static void layersWhereOthersWereUndone() {
+        Run bands = run();
+        for (int ice : new int[] {50, 60, 7, 8, 9, 1}) {
+            bands.play("band 3000 100 0 " + ice).due("layer 0 0 1", ice).due("ofYear 0", ice);
+            bands.due("account 4", ice).due("account 5", ice).due("undo", 0);
+        }
+        Run years = Start.flat(answers, 9, 5, "band 3000 100 0 0").run();
+        for (int i = 1; i <= 6; i++) {
+            // Without these the state with years would be written over ahead of the next band.
+            years.play("set 6 1", "set 6 2", "undo");
+            years.play("band 2000 100 0 " + i).due("bandInfo 1 4", 1).due("bandInfo 1 5", 0).due("bandInfo 1 6", 0);
+            years.due("ofYear 0", i).due("ofYear 1", 0).due("ofYear 3", 0).due("account 5", i);
+            years.play("years 3").due("bandInfo 1 4", 4).due("bandInfo 1 6", 3).due("layer 1 3 1", 4);
+            years.due("account 5", i + 24).play("undo", "undo").due("count 0", 1).due("account 5", 0);
         }
     }
 }

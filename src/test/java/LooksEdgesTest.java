@@ -21,6 +21,7 @@ public final class LooksEdgesTest {
         greatestSteadyMelt();
         atLeastTheirMeltTogether();
         byTheOtherSettings();
+        eachSteadyMelt();
         answers.end();
     }
 
@@ -127,7 +128,8 @@ public final class LooksEdgesTest {
             flat(0, 10, "band 3000 100 0 9000", "stake 0 0 " + c[0], "stake 0 1 1").due("yearsTo 2", c[1]);
         }
         // 300 years of 1 each: from 4700 it falls, from 4699 it stands at the last place.
-        flat(0, 0, "band 3000 1000 1 9000", "band 2000 5000 0 0", "creep 1 0", "stake 0 701 1").due("yearsTo 2", NOT_FOUND);
+        flat(0, 0, "band 3000 1000 1 9000", "band 2000 5000 0 0", "creep 1 0", "stake 0 701 1")
+                .due("yearsTo 2", NOT_FOUND);
         flat(0, 0, "band 3000 1000 1 9000", "stake 0 700 1").due("yearsTo 2", 300);
         flat(0, 0, "band 3000 1000 1 9000", "stake 0 699 1").due("yearsTo 2", NOT_FOUND);
         flat(0, 0, "band 3000 1000 1 9000", "stake 0 999 1").due("yearsTo 2", 1);
@@ -191,7 +193,8 @@ public final class LooksEdgesTest {
     private static void atLeastTheirMeltTogether() {
         // Two bands, of which the second melts 20 more than the first: 2 * m + 20 against 2 * snow.
         Run run = flat(100, 0, "set 3 2", "band 2500 100 0 0", "band 1500 100 0 0");
-        run.due("steadyMelt", 90).due("set 3 1", 2).due("steadyMelt", 95).due("set 3 100", 1).due("steadyMelt", NOT_FOUND);
+        run.due("steadyMelt", 90).due("set 3 1", 2).due("steadyMelt", 95).due("set 3 100", 1)
+                .due("steadyMelt", NOT_FOUND);
         run.due("set 3 20", 100).due("steadyMelt", 0).due("set 3 21", 20).due("steadyMelt", NOT_FOUND);
         // 10 bands whose snow is 10 less from one to the next: 1000 to 910, 955 in the middle.
         Run ten = new Run(answers, "set 3 0", "set 1 10");
@@ -211,6 +214,19 @@ public final class LooksEdgesTest {
         Run run = flat(100, 0, "band 2500 100 0 0");
         for (int melt : new int[] {0, 1, 99, 100, 101, 9000}) {
             run.play("set 2 " + melt).due("steadyMelt", 100).due("count 8", melt);
+        }
+    }
+
+    private static void eachSteadyMelt() {
+        // The snow is the setting, or 4000 more with a growth of 160.
+        for (int growth = 0; growth <= 160; growth += 160) {
+            Run run = null;
+            for (int snow = 0; snow <= 5000; snow++) {
+                if (snow % 200 == 0) {
+                    run = flat(0, 0, "set 1 " + growth, "band 5000 100 0 0");
+                }
+                run.play("set 0 " + snow).due("steadyMelt", snow + growth * 25);
+            }
         }
     }
 }

@@ -101,7 +101,8 @@ public final class RangesTest {
         ORDINARY.refuses("band 1501 100 0 0", NOT_POSSIBLE).refuses("band 5000 5000 500 1000000", NOT_POSSIBLE);
         YOUNG.due("band 2499 100 0 0", 1).refuses("band 2500 100 0 0", NOT_POSSIBLE);
         // At the height 0 there is nothing below.
-        new Start(answers, "band 0 100 0 0").refuses("band 0 100 0 0", NOT_POSSIBLE).refuses("band -1 100 0 0", INVALID);
+        new Start(answers, "band 0 100 0 0").refuses("band 0 100 0 0", NOT_POSSIBLE)
+                .refuses("band -1 100 0 0", INVALID);
         new Start(answers, "band 1 100 0 0").due("band 0 100 0 0", 1);
         NEW.due("band 5000 5000 500 1000000", 0).due("band 0 100 0 0", 0);
         // "LIMIT_REACHED if there are 10"; NOT_POSSIBLE rather than LIMIT_REACHED

@@ -146,7 +146,8 @@ public final class RideEdgesTest {
             {5000, 499, 2495}, {5000, 500, 2500}, {999, 500, 499},
         };
         for (int[] c : cases) {
-            Run run = flat(0, 0, "band 3000 " + c[0] + " " + c[1] + " 0", "band 2000 5000 0 0", "stake 0 0 1", "years 1");
+            Run run = flat(0, 0, "band 3000 " + c[0] + " " + c[1] + " 0", "band 2000 5000 0 0", "stake 0 0 1",
+                "years 1");
             run.due("stakeInfo 0 0", 0).due("stakeInfo 0 1", c[2]);
         }
         // Of the band in which it is ahead of the move.
@@ -215,7 +216,8 @@ public final class RideEdgesTest {
         run.due("stake 0 6 9", Calls.LIMIT).due("count 2", 6).due("stakesIn 0", 63).due("stakeInfo 6 0", Calls.INVALID);
         run.due("pull 5", 0).due("stake 0 6 9", 5).due("stake 0 7 9", Calls.LIMIT);
         // Behind a pull of the first one, the next one that is set is none of those that are there.
-        run.due("pull 0", 0).due("pull 0", 0).due("stake 0 50 8", 4).due("stake 0 60 7", 5).due("stake 0 70 6", Calls.LIMIT);
+        run.due("pull 0", 0).due("pull 0", 0).due("stake 0 50 8", 4).due("stake 0 60 7", 5)
+                .due("stake 0 70 6", Calls.LIMIT);
         int[] places = {2, 3, 4, 6, 50, 60};
         for (int i = 0; i < 6; i++) {
             run.due("stakeInfo " + i + " 1", places[i]);
@@ -243,7 +245,8 @@ public final class RideEdgesTest {
     }
 
     private static void accountsAtTheEnd() {
-        Run run = new Run(answers, "set 5 77", "band 4000 1000 200 500000", "band 2600 500 300 0", "band 2000 700 500 9");
+        Run run = new Run(answers, "set 5 77", "band 4000 1000 200 500000", "band 2600 500 300 0",
+                "band 2000 700 500 9");
         for (int year = 50; year <= 500; year += 50) {
             run.play("until " + year);
             long ice = run.ask("account 0") + run.ask("account 1") - run.ask("account 2") - run.ask("account 3");

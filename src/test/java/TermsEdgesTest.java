@@ -27,6 +27,7 @@ public final class TermsEdgesTest {
         lastOneToTheFront();
         allGiveFirst();
         joinsLayersOfTheSameYears();
+        getsWhereAllHasMelted();
         answers.end();
     }
 
@@ -320,5 +321,16 @@ public final class TermsEdgesTest {
         run.due("years 1", 0).due("layer 1 0 1", 107).due("layer 1 1 1", 12).due("bandInfo 1 4", 4);
         run.due("bandInfo 0 5", 1).due("layer 0 0 1", 4).due("ofYear 0", 107);
         run.due("undo", 3).due("layer 1 0 1", 92);
+    }
+
+    /** A band whose own layers have all melted has just those that it gets. */
+    private static void getsWhereAllHasMelted() {
+        // At 3000 nothing melts, at 2000 all: 52 of 105 are given, of year 0.
+        Run run = run("set 0 5", "set 1 0", "set 2 500", "band 3000 100 500 100", "band 2000 100 0 10", "years 1");
+        run.dues("bandInfo 1", 2000, 100, 0, 52, 1, 0, 0, 5, 1000, 15, 0, 52);
+        run.due("layer 1 0 0", 0).due("layer 1 0 1", 52).due("layer 1 1 0", NOT_FOUND).due("ofYear 1", 5);
+        // 53 + 5: 29 of year 0 come, where 52 and the snow have melted.
+        run.due("years 1", 0).due("bandInfo 1 9", 57).due("bandInfo 1 5", 0).due("bandInfo 1 6", 0);
+        run.due("bandInfo 1 3", 29).due("layer 1 0 1", 29);
     }
 }
