@@ -127,7 +127,7 @@ public final class LooksEdgesTest {
             flat(0, 10, "band 3000 100 0 9000", "stake 0 0 " + c[0]).due("yearsTo 2", c[1]).due("count 3", 1);
             flat(0, 10, "band 3000 100 0 9000", "stake 0 0 " + c[0], "stake 0 1 1").due("yearsTo 2", c[1]);
         }
-        // 300 years of 1 each: from 4700 it falls, from 4699 it stands at the last place.
+        // 300 years of 1 each: from 700 it falls, or rides into the band below; from 699 it stands at the last place.
         flat(0, 0, "band 3000 1000 1 9000", "band 2000 5000 0 0", "creep 1 0", "stake 0 701 1")
                 .due("yearsTo 2", NOT_FOUND);
         flat(0, 0, "band 3000 1000 1 9000", "stake 0 700 1").due("yearsTo 2", 300);

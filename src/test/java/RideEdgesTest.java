@@ -147,7 +147,7 @@ public final class RideEdgesTest {
         };
         for (int[] c : cases) {
             Run run = flat(0, 0, "band 3000 " + c[0] + " " + c[1] + " 0", "band 2000 5000 0 0", "stake 0 0 1",
-                "years 1");
+                    "years 1");
             run.due("stakeInfo 0 0", 0).due("stakeInfo 0 1", c[2]);
         }
         // Of the band in which it is ahead of the move.
