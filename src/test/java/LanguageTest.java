@@ -1,5 +1,7 @@
 import com.sun.management.ThreadMXBean;
 import java.io.IOException;
+import java.io.PrintWriter;
+import java.io.StringWriter;
 import java.lang.management.ManagementFactory;
 import java.lang.reflect.Constructor;
 import java.lang.reflect.Field;
@@ -10,14 +12,19 @@ import java.nio.file.Path;
 import java.util.ArrayList;
 import java.util.Arrays;
 import java.util.List;
+import java.util.Map;
+import java.util.Optional;
+import java.util.TreeMap;
 import java.util.TreeSet;
 import java.util.regex.Matcher;
 import java.util.regex.Pattern;
+import java.util.spi.ToolProvider;
 
 /** The face of the document, and what can be seen of the rules of LANGUAGE.md. */
 public final class LanguageTest {
     private static final String SOURCE = "src/main/java/IceTongue.java";
     private static final int MOST_LINES = 60;
+    private static final int MOST_DEEP = 8;
 
     private static final Answers answers = new Answers("LanguageTest");
 
@@ -28,6 +35,7 @@ public final class LanguageTest {
         String code = withoutCommentsAndTexts(Files.readString(Path.of(SOURCE)));
         rule4And6Words(code);
         rule11Methods(code);
+        rules8And11Depth();
         rule7NoCallThrows();
         rule12WhatCallsMake();
         answers.end();
@@ -148,6 +156,60 @@ public final class LanguageTest {
                     lines <= MOST_LINES);
         }
         answers.holds("methods were found: " + methods, methods > 60);
+    }
+
+    /** No method comes back to itself, and calls go at most eight deep. */
+    private static void rules8And11Depth() {
+        Optional<ToolProvider> javap = ToolProvider.findFirst("javap");
+        if (javap.isEmpty()) {
+            return;
+        }
+        Map<String, TreeSet<String>> called = new TreeMap<>();
+        for (Class<?> c : allClasses()) {
+            readCalls(c.getName(), codeOf(javap.get(), c), called);
+        }
+        answers.holds("methods were found: " + called.keySet(), called.size() > 60);
+        for (String method : called.keySet()) {
+            int depth = depth(called, method, 1);
+            answers.holds(method + " goes " + depth + " deep", depth <= MOST_DEEP);
+        }
+    }
+
+    private static String codeOf(ToolProvider javap, Class<?> c) {
+        StringWriter out = new StringWriter();
+        PrintWriter print = new PrintWriter(out);
+        javap.run(print, print, "-c", "-p", "-cp", System.getProperty("java.class.path"), c.getName());
+        print.flush();
+        return out.toString();
+    }
+
+    private static void readCalls(String name, String code, Map<String, TreeSet<String>> called) {
+        Pattern head = Pattern.compile("  (?! ).*?(\\w+|" + Pattern.quote(name) + ")\\(.*\\);");
+        Pattern call = Pattern.compile("// Method (?:([\\w$]+)\\.)?\"?(<init>|\\w+)\"?:");
+        String within = "";
+        for (String line : code.split("\\R")) {
+            Matcher begins = head.matcher(line);
+            Matcher calls = call.matcher(line);
+            if (begins.matches()) {
+                within = name + "." + (begins.group(1).equals(name) ? "<init>" : begins.group(1));
+                called.putIfAbsent(within, new TreeSet<>());
+            } else if (called.containsKey(within) && calls.find()) {
+                called.get(within).add((calls.group(1) == null ? name : calls.group(1)) + "." + calls.group(2));
+            }
+        }
+    }
+
+    // A method that comes back to itself goes deeper than any bound: here it ends behind the most.
+    private static int depth(Map<String, TreeSet<String>> called, String method, int above) {
+        int deepest = above;
+        if (above <= MOST_DEEP) {
+            for (String next : called.getOrDefault(method, new TreeSet<>())) {
+                if (called.containsKey(next)) {
+                    deepest = Math.max(deepest, depth(called, next, above + 1));
+                }
+            }
+        }
+        return deepest;
     }
 
     /** Whatever the arguments are, and far behind the 512th call too. */
